@@ -35,7 +35,8 @@ public final class PaneHouse {
         outer = new Outer(this.width, this.height);
         picture = new int[this.width * this.height];
         line = new int[this.width];
-        panes[0].begin(this.width, this.height);
+        fitPanes();
+        panes[0].begin();
     }
 
     public void feed(int pane, long w, int n) throws IndexOutOfBoundsException, IllegalArgumentException {
@@ -222,7 +223,7 @@ public final class PaneHouse {
         int added = layout.divide(pane, down);
         if (added != NONE) {
             fitPanes();
-            panes[added].begin(panes[added].screen.columns, panes[added].screen.rows);
+            panes[added].begin();
             focused = added;
         }
         return added;
@@ -295,7 +296,6 @@ public final class PaneHouse {
 
     /** A part of the layout with its area: one pane's, or a split with two parts and a border between them. */
     private static final class Part {
-        private final int pane;
         private int column;
         private int row;
         private int columns;
@@ -305,8 +305,7 @@ public final class PaneHouse {
         private Part second;
         private Part above;
 
-        Part(int pane, Part above) {
-            this.pane = pane;
+        Part(Part above) {
             this.above = above;
         }
 
@@ -339,7 +338,7 @@ public final class PaneHouse {
         private Part root;
 
         Layout(int width, int height) {
-            root = new Part(0, null);
+            root = new Part(null);
             root.columns = width;
             root.rows = height;
             leaves[0] = root;
@@ -385,11 +384,11 @@ public final class PaneHouse {
                 return NONE;
             }
             Part old = leaves[pane];
-            Part split = new Part(NONE, old.above);
+            Part split = new Part(old.above);
             exchange(old, split);
             old.above = split;
             split.first = old;
-            split.second = new Part(added, split);
+            split.second = new Part(split);
             split.down = down;
             split.column = old.column;
             split.row = old.row;
@@ -483,8 +482,8 @@ public final class PaneHouse {
             reader = new Reader(screen);
         }
 
-        void begin(int columns, int rows) {
-            screen.resize(columns, rows);
+        /** A pane's number may have been another pane's before: nothing of that one stays but the size. */
+        void begin() {
             screen.reset();
             reader.reset();
             typed.total = 0;
@@ -685,7 +684,6 @@ public final class PaneHouse {
 
         void reset() {
             main.keep(0, 0);
-            other.keep(0, 0);
             history.forget();
             column = 0;
             row = 0;
@@ -742,7 +740,6 @@ public final class PaneHouse {
         }
 
         void goDown() {
-            wrapWaits = false;
             if (row == bottom) {
                 scrollUp(1);
             } else {
@@ -751,7 +748,6 @@ public final class PaneHouse {
         }
 
         void goUp() {
-            wrapWaits = false;
             if (row == top) {
                 scrollDown(1);
             } else {
@@ -1023,7 +1019,7 @@ public final class PaneHouse {
         private void setPen() {
             int told = digits ? ended + 1 : ended;
             int pen = told == 0 ? 0 : screen.pen;
-            for (int i = 0; i < told && i < NUMBERS; i++) {
+            for (int i = 0; i < NUMBERS && i < told; i++) {
                 pen = changedPen(pen, numbers[i]);
             }
             screen.pen = pen;

@@ -37,6 +37,7 @@ final class BytesTest {
 
     private static void plainBytes() {
         draws("others do nothing", "a\u0000\u0007\u000b\u007f\u0080\u00ffb", "ab", "2 0 0");
+        draws("32 and 126", "xx\r ~", " ~", "2 0 0");
         draws("8", "abc\b\bX", "aXc", "2 0 0");
         draws("8 in column 0", "\b\bX", "X", "1 0 0");
         draws("9", "a\tb", "a      b", "7 0 1");
@@ -247,6 +248,8 @@ final class BytesTest {
         String region = FULL + ESC + "[2;3r" + ESC + "[2;3H";
         draws("L in the REGION", region + ESC + "[L", "abcdefgh//ijklmnop/yz012345", "0 1 0");
         draws("M in the REGION", region + ESC + "[M", "abcdefgh/qrstuvwx//yz012345", "0 1 0");
+        draws("L in the REGION's last row", region + "\n" + ESC + "[L", "abcdefgh/ijklmnop//yz012345", "0 2 0");
+        draws("M in the REGION's last row", region + "\n" + ESC + "[M", "abcdefgh/ijklmnop//yz012345", "0 2 0");
         draws("L outside", region + ESC + "[A" + ESC + "[L", FULL.replace("\r\n", "/"), "2 0 0");
         draws("M outside", region + ESC + "[2B" + ESC + "[M", FULL.replace("\r\n", "/"), "2 3 0");
         PaneHouse house = Checks.house(8, 4, FULL + ESC + "[7m" + ESC + "[2;3H" + ESC + "[L");

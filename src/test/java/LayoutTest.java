@@ -80,6 +80,13 @@ final class LayoutTest {
         Checks.same("the wait is off", Checks.cursor(wait, 0), "7 0 0");
         wait.close(1);
         Checks.same("attribute 0", Checks.attributes(wait, 2), "0 0 0 0 0 0 0 0");
+        PaneHouse narrow = Checks.house(8, 4, ESC + "[3;8H" + ESC + "7" + ESC + "[2;3r");
+        narrow.split(0, false);
+        narrow.close(1);
+        Checks.feed(narrow, 0, ESC + "8");
+        Checks.same("the SAVED cursor's column", Checks.cursor(narrow, 0), "2 2 0");
+        Checks.feed(narrow, 0, ESC + "[4H\n");
+        Checks.same("the REGION begins with row 0", narrow.about(0, 7), 1);
         PaneHouse saved = Checks.house(8, 4, ESC + "[4;8H" + ESC + "7" + ESC + "[H");
         saved.split(0, true);
         saved.close(1);

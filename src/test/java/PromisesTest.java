@@ -181,6 +181,8 @@ final class PromisesTest {
         Checks.same("8: rows", house.select(0, 0, 5, 3, 0), 11);
         Checks.same("8: rows", Checks.copied(house), "de\n\n  xyz\n1");
         Checks.refuses("8: pane 1", house, Checks.INDEX, () -> house.select(1, 0, 0, 0, 0));
+        Checks.refuses("8: pane -1", house, Checks.INDEX, () -> house.select(-1, 0, 0, 0, 0));
+        Checks.refuses("8: pane 8", house, Checks.INDEX, () -> house.select(8, 0, 0, 0, 0));
         Checks.refuses("8: row -1", house, Checks.INDEX, () -> house.select(0, -1, 0, 0, 0));
         Checks.refuses("8: column -1", house, Checks.INDEX, () -> house.select(0, 0, -1, 0, 0));
         Checks.refuses("8: row 4", house, Checks.INDEX, () -> house.select(0, 4, 0, 0, 0));
@@ -195,6 +197,9 @@ final class PromisesTest {
         Checks.refuses("8: pane 0 is smaller", house, Checks.INDEX, () -> house.select(0, 0, 0, 0, 3));
         Checks.same("8: a pane's own rows", house.select(1, 0, 0, 3, 3), 3);
         Checks.same("8: a pane's own rows", Checks.copied(house), "\n\n\n");
+        house.close(1);
+        Checks.refuses("8: a closed pane", house, Checks.INDEX, () -> house.select(1, 0, 0, 0, 0));
+        Checks.refuses("8: a closed pane first", house, Checks.INDEX, () -> house.select(1, 1, 0, 0, 0));
     }
 
     private static void redraw() {
