@@ -887,7 +887,8 @@ public final class PaneHouse {
     private static final class Reader {
         private static final int PLAIN = 0;
         private static final int BEGUN = 1;
-        private static final int LONGER = 2;
+        private static final int OPENED = 2;
+        private static final int LONGER = 3;
         private static final int NUMBERS = 4;
         private static final int GREATEST = 999;
 
@@ -907,6 +908,11 @@ public final class PaneHouse {
         }
 
         void take(int b) {
+            if (state == OPENED) {
+                /* At once: any other byte first, even one that does nothing, leaves no room for the ?. */
+                asked = b == '?';
+                state = LONGER;
+            }
             switch (b) {
                 case 8 -> screen.moveTo(screen.column - 1, screen.row);
                 case 9 -> screen.goToTab();
@@ -939,11 +945,10 @@ public final class PaneHouse {
         }
 
         private void beginLonger() {
-            state = LONGER;
+            state = OPENED;
             Arrays.fill(numbers, 0);
             ended = 0;
             digits = false;
-            asked = false;
         }
 
         private void takeLonger(int b) {
@@ -952,8 +957,6 @@ public final class PaneHouse {
             } else if (b == ';') {
                 ended = Math.min(NUMBERS, ended + 1);
                 digits = false;
-            } else if (b == '?') {
-                asked = asked || (ended == 0 && !digits);
             } else if (b >= 64 && b <= 126) {
                 state = PLAIN;
                 if (asked) {

@@ -18,6 +18,7 @@ final class BytesTest {
         cellsIn();
         pens();
         modes();
+        questionMarks();
         otherCells();
         Checks.end();
     }
@@ -306,6 +307,26 @@ final class BytesTest {
         Checks.same("not seen", house.count(4), 0);
         Checks.feed(house, 0, ESC + "[?25h");
         Checks.same("seen", house.count(4), 1);
+    }
+
+    private static void questionMarks() {
+        String[] between = {"!", "\b", "\t", "\n", "\r", "0", "2", ";", " ", "<", ">", "\u0000", "\u007f", "\u00ff", "!?"};
+        for (String other : between) {
+            PaneHouse house = Checks.house(20, 7, ESC + "[" + other + "?25l");
+            Checks.same("? not at once: seen", house.count(4), 1);
+            Checks.feed(house, 0, "x");
+            Checks.same("? not at once: ended", house.cell(house.count(2) - 1, house.count(3), false), 'x');
+        }
+        for (String other : new String[] {"!", "?", "\b", "\t", "\n", "\r", "\u0000", "\u00ff"}) {
+            Checks.same("? at once: not seen", Checks.house(20, 7, ESC + "[?" + other + "25l").count(4), 0);
+        }
+        draws("bytes that act before a late ?", "abc" + ESC + "[\b\n\r\t?7lX", "abc/       X", "7 1 1");
+        draws("a late ?, WRAP mode", ESC + "[!?7labcdefghi", "abcdefgh/i", "1 1 0");
+        draws("a late ?, other cells", "ab" + ESC + "[\u0000?47hc", "abc", "3 0 0");
+        draws("a late ?, INSERT mode", "ab\r" + ESC + "[!?4hX", "Xab", "1 0 0");
+        draws("a late ?, moves", "abc" + ESC + "[ ?2Dx", "axc", "2 0 0");
+        draws("each sequence by itself", "ab" + ESC + "[?1h" + ESC + "[2Dx", "xb", "1 0 0");
+        draws("a sequence that another one cuts", "ab" + ESC + "[?" + ESC + "[2Dx", "xb", "1 0 0");
     }
 
     private static void otherCells() {
