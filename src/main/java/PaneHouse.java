@@ -783,7 +783,6 @@ public final class PaneHouse {
         }
 
         void insertRows(int n) {
-            wrapWaits = false;
             if (row >= top && row <= bottom) {
                 lowerRows(row, n);
                 column = 0;
@@ -791,7 +790,6 @@ public final class PaneHouse {
         }
 
         void deleteRows(int n) {
-            wrapWaits = false;
             if (row >= top && row <= bottom) {
                 raiseRows(row, n);
                 column = 0;
@@ -823,26 +821,22 @@ public final class PaneHouse {
         }
 
         void insertCells(int n) {
-            wrapWaits = false;
             int by = Math.min(n, columns - column);
             shown().moveCells(row, column, column + by, columns - column - by);
             shown().fill(row, column, column + by, blank());
         }
 
         void deleteCells(int n) {
-            wrapWaits = false;
             int by = Math.min(n, columns - column);
             shown().moveCells(row, column + by, column, columns - column - by);
             shown().fill(row, columns - by, columns, blank());
         }
 
         void eraseCells(int n) {
-            wrapWaits = false;
             shown().fill(row, column, Math.min(columns, column + n), blank());
         }
 
         void eraseInRow(int how) {
-            wrapWaits = false;
             if (how >= 0 && how <= 2) {
                 int from = how == 0 ? column : 0;
                 int to = how == 1 ? column + 1 : columns;
@@ -862,7 +856,6 @@ public final class PaneHouse {
 
         /** The REGION from a row to another one, counted from 1 on. */
         void setRegion(int from, int to) {
-            wrapWaits = false;
             int last = to == 0 ? rows : Math.min(to, rows);
             if (last > from) {
                 top = from - 1;
@@ -908,11 +901,6 @@ public final class PaneHouse {
         }
 
         void take(int b) {
-            if (state == OPENED) {
-                /* At once: any other byte first, even one that does nothing, leaves no room for the ?. */
-                asked = b == '?';
-                state = LONGER;
-            }
             switch (b) {
                 case 8 -> screen.moveTo(screen.column - 1, screen.row);
                 case 9 -> screen.goToTab();
@@ -920,6 +908,12 @@ public final class PaneHouse {
                 case 13 -> screen.moveTo(0, screen.row);
                 case 27 -> state = BEGUN;
                 default -> {
+                    if (state == OPENED) {
+                        /* At once: a byte that the sequence takes first, even one that does nothing, leaves no room
+                           for the ?. The bytes above act by themselves, and it goes on as it was. */
+                        asked = b == '?';
+                        state = LONGER;
+                    }
                     if (state == LONGER) {
                         takeLonger(b);
                     } else if (state == BEGUN) {
@@ -959,11 +953,21 @@ public final class PaneHouse {
                 digits = false;
             } else if (b >= 64 && b <= 126) {
                 state = PLAIN;
+                endWait(b);
                 if (asked) {
                     doAsked(b);
                 } else {
                     doLonger(b);
                 }
+            }
+        }
+
+        /* Whatever the sequence does: even if that is nothing, as with a ? or outside the REGION. */
+        private void endWait(int b) {
+            switch (b) {
+                case 'A', 'B', 'C', 'D', 'G', 'H', 'J', 'K', 'L', 'M', 'P', 'S', 'T', 'X', '@', 'd', 'f', 'r' ->
+                    screen.wrapWaits = false;
+                default -> { }
             }
         }
 

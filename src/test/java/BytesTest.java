@@ -23,17 +23,8 @@ final class BytesTest {
         Checks.end();
     }
 
-    /** The picture's rows and the cursor, after a text on a screen of 8 columns and 4 rows. */
     private static void draws(String what, String text, String rows, String cursor) {
-        PaneHouse house = Checks.house(8, 4, text);
-        StringBuilder padded = new StringBuilder();
-        for (String row : (rows + "/ / / /").split("/")) {
-            if (padded.length() < 35) {
-                padded.append(padded.length() == 0 ? "" : "/").append((row + "        "), 0, 8);
-            }
-        }
-        Checks.same(what, Checks.rows(house), padded.toString());
-        Checks.same(what + ": cursor", Checks.cursor(house, 0), cursor);
+        Checks.draws(what, text, rows, cursor);
     }
 
     private static void plainBytes() {
@@ -70,10 +61,12 @@ final class BytesTest {
         for (char end : "ABCDGHJKLMPSTX@dfr".toCharArray()) {
             waits("ends the wait: " + end, ESC + "[" + end, 0);
             waits("ends the wait: 9 " + end, ESC + "[9" + end, 0);
+            waits("ends the wait: ? " + end, ESC + "[?" + end, 0);
         }
         for (char other = 64; other <= 126; other++) {
             if ("ABCDGHJKLMPSTX@dfr".indexOf(other) < 0) {
                 waits("does not end the wait: " + other, ESC + "[4" + other, 1);
+                waits("does not end the wait: ? " + other, ESC + "[?4" + other, 1);
             }
         }
         for (String other : new String[] {ESC + "7", ESC + "[?7h", ESC + "[?25l", ESC + "[?47h", ESC + "E", "\u0000"}) {
@@ -310,7 +303,7 @@ final class BytesTest {
     }
 
     private static void questionMarks() {
-        String[] between = {"!", "\b", "\t", "\n", "\r", "0", "2", ";", " ", "<", ">", "\u0000", "\u007f", "\u00ff", "!?"};
+        String[] between = {"!", "0", "2", ";", " ", "<", ">", "\u0000", "\u007f", "\u00ff", "!?", "!\b", "\b!"};
         for (String other : between) {
             PaneHouse house = Checks.house(20, 7, ESC + "[" + other + "?25l");
             Checks.same("? not at once: seen", house.count(4), 1);
@@ -320,7 +313,10 @@ final class BytesTest {
         for (String other : new String[] {"!", "?", "\b", "\t", "\n", "\r", "\u0000", "\u00ff"}) {
             Checks.same("? at once: not seen", Checks.house(20, 7, ESC + "[?" + other + "25l").count(4), 0);
         }
-        draws("bytes that act before a late ?", "abc" + ESC + "[\b\n\r\t?7lX", "abc/       X", "7 1 1");
+        for (String acting : new String[] {"\b", "\t", "\n", "\r", "\b\t\n\r"}) {
+            Checks.same("the sequence goes on as it was", Checks.house(20, 7, ESC + "[" + acting + "?25l").count(4), 0);
+        }
+        draws("bytes that act before the ?", "abc" + ESC + "[\b\n\r\t?7lXY", "abc/       Y", "7 1 0");
         draws("a late ?, WRAP mode", ESC + "[!?7labcdefghi", "abcdefgh/i", "1 1 0");
         draws("a late ?, other cells", "ab" + ESC + "[\u0000?47hc", "abc", "3 0 0");
         draws("a late ?, INSERT mode", "ab\r" + ESC + "[!?4hX", "Xab", "1 0 0");

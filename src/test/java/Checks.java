@@ -49,6 +49,19 @@ final class Checks {
         return house;
     }
 
+    /** The picture's rows and the cursor, after a text on a screen of 8 columns and 4 rows; blanks behind may be left out. */
+    static void draws(String what, String text, String rows, String cursor) {
+        PaneHouse house = house(8, 4, text);
+        StringBuilder padded = new StringBuilder();
+        for (String row : (rows + "/ / / /").split("/")) {
+            if (padded.length() < 35) {
+                padded.append(padded.length() == 0 ? "" : "/").append((row + "        "), 0, 8);
+            }
+        }
+        same(what, rows(house), padded.toString());
+        same(what + ": cursor", cursor(house, 0), cursor);
+    }
+
     static void feed(PaneHouse house, int pane, String text) {
         for (int at = 0; at < text.length(); at += 8) {
             int n = Math.min(8, text.length() - at);
